@@ -1,0 +1,48 @@
+/** Promise 7: rows are TAKEN. */
+public final class Promise07TakeTest {
+    public static void main(String[] args) {
+        Checks checks = new Checks();
+        LinkedCovers x = new LinkedCovers(5, 2);
+        checks.noIndex("take(0) without rows", () -> x.take(0));
+        int first = Build.painted(x, 0, 0, 3, 1);
+        int again = Build.painted(x, 0, 0, 3, 1);
+        int sameColour = Build.painted(x, 1, 0, 3, 1);
+        int otherColour = Build.painted(x, 1, 0, 3, 2);
+        int noColour = Build.painted(x, 1, 0, 3, 0);
+        int optionalOnly = Build.painted(x, 3, 1);
+        int empty = x.row();
+        int aside = Build.painted(x, 2, 0, 4, 0);
+        int asideToo = Build.painted(x, 1, 0, 4, 0);
+        checks.noIndex("take(-1)", () -> x.take(-1));
+        checks.noIndex("take behind the last", () -> x.take(9));
+        checks.no("a row of optional columns alone", x.take(optionalOnly));
+        checks.no("an empty row", x.take(empty));
+        checks.yes("take", x.take(first));
+        checks.no("taken already", x.take(first));
+        checks.no("column 0 is covered", x.take(again));
+        checks.no("another colour", x.take(otherColour));
+        checks.no("colour 0", x.take(noColour));
+        checks.yes("an optional column of its own", x.take(aside));
+        checks.no("colour 0 twice", x.take(asideToo));
+        checks.yes("the same colour", x.take(sameColour));
+        checks.noIndex("take behind the last, rows taken", () -> x.take(9));
+        checks.same("these are a way", x.ways(10), 1);
+        checks.same("of three rows", x.way(0, 2), aside);
+        twice(checks);
+        checks.end();
+    }
+
+    private static void twice(Checks checks) {
+        LinkedCovers x = new LinkedCovers(2, 0);
+        x.times(0, 2);
+        Build.row(x, 0);
+        Build.row(x, 0, 1);
+        Build.row(x, 0);
+        Build.row(x, 1);
+        checks.yes("column 0 once", x.take(2));
+        checks.no("taken already, though column 0 has room", x.take(2));
+        checks.yes("column 0 twice", x.take(1));
+        checks.no("column 0 thrice", x.take(0));
+        checks.no("column 1 twice", x.take(3));
+    }
+}
