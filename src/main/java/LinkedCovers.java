@@ -194,10 +194,10 @@ public final class LinkedCovers {
         }
     }
 
-    /** The member of a set of bits that has just so many lesser ones, or -1. */
+    /** The member of a set (of rows or columns, as bits) that has just so many lesser ones, or -1. */
     private static int memberAt(long set, int lesser) {
         int seen = 0;
-        for (int member = 0; member < Long.SIZE; member++) {
+        for (int member = 0; member < MOST_ROWS; member++) {
             if ((set >> member & 1L) != 0) {
                 if (seen == lesser) {
                     return member;
@@ -290,17 +290,36 @@ public final class LinkedCovers {
             }
         }
 
-        boolean isCovered(int column, long chosen) {
-            return Long.bitCount(rowsOf[column] & chosen) >= due[column];
+        int neededColumns() {
+            return (1 << neededCount) - 1;
+        }
+
+        /** Those of some needed columns that the chosen rows do not cover often enough. */
+        int uncovered(int columns, long chosen) {
+            int result = 0;
+            for (int column = 0; column < neededCount; column++) {
+                if ((columns >> column & 1) != 0 && Long.bitCount(rowsOf[column] & chosen) < due[column]) {
+                    result |= 1 << column;
+                }
+            }
+            return result;
+        }
+
+        long rowsWithAny(int columns) {
+            long result = 0L;
+            for (int column = 0; column < columnCount; column++) {
+                if ((columns >> column & 1) != 0) {
+                    result |= rowsOf[column];
+                }
+            }
+            return result;
         }
 
         /** The rows that could be chosen beside the chosen ones. */
         long fitting(long chosen) {
-            long fit = 0L;
-            for (int column = 0; column < neededCount; column++) {
-                fit |= rowsOf[column];
-            }
-            fit &= ~chosen & ~coveredRows(chosen);
+            int needed = neededColumns();
+            int covered = needed & ~uncovered(needed, chosen);
+            long fit = rowsWithAny(needed) & ~chosen & ~rowsWithAny(covered);
             for (int row = 0; row < rowCount; row++) {
                 if ((clashesOf[row] & chosen) != 0) {
                     fit &= ~(1L << row);
@@ -309,26 +328,17 @@ public final class LinkedCovers {
             return fit;
         }
 
-        /** The rows with a needed column that is covered often enough. */
-        long coveredRows(long chosen) {
-            long covered = 0L;
-            for (int column = 0; column < neededCount; column++) {
-                if (isCovered(column, chosen)) {
-                    covered |= rowsOf[column];
-                }
-            }
-            return covered;
-        }
-
-        /** The column that the search goes through at a node, or -1 when all are covered. */
-        int columnToCover(long chosen, long free) {
+        /** The one of some columns with the fewest free rows, the least of alike ones; -1 of no columns. */
+        int columnOfFewest(int columns, long free) {
             int best = -1;
             int fewest = MOST_ROWS + 1;
             for (int column = 0; column < neededCount; column++) {
-                int count = Long.bitCount(rowsOf[column] & free);
-                if (count < fewest && !isCovered(column, chosen)) {
-                    best = column;
-                    fewest = count;
+                if ((columns >> column & 1) != 0) {
+                    int count = Long.bitCount(rowsOf[column] & free);
+                    if (count < fewest) {
+                        best = column;
+                        fewest = count;
+                    }
                 }
             }
             return best;
@@ -361,6 +371,7 @@ public final class LinkedCovers {
         private final long[] chosen = new long[MOST_ROWS + 1];
         private final long[] free = new long[MOST_ROWS + 1];
         private final long[] untried = new long[MOST_ROWS + 1];
+        private final int[] uncovered = new int[MOST_ROWS + 1];
         final long[] kept = new long[MOST_KEPT];
         int nodeCount;
         private int found;
@@ -378,6 +389,7 @@ public final class LinkedCovers {
             found = 0;
             chosen[0] = start;
             free[0] = table.fitting(start);
+            uncovered[0] = table.uncovered(table.neededColumns(), start);
             comeTo(0);
             int level = 0;
             // Each step comes to a node or leaves one, and each node is left once.
@@ -388,10 +400,11 @@ public final class LinkedCovers {
                 if (found >= most) {
                     return found;
                 }
-                if (untried[level] == 0 || level >= MOST_ROWS) {
+                int row = lowestRow(untried[level]);
+                if (row < 0 || level >= MOST_ROWS) {
                     level--;
                 } else {
-                    chooseNextRow(level);
+                    chooseRow(level, row);
                     level++;
                     comeTo(level);
                 }
@@ -406,7 +419,7 @@ public final class LinkedCovers {
             if (nodeCount >= MOST_NODES) {
                 return;
             }
-            int column = table.columnToCover(chosen[level], free[level]);
+            int column = table.columnOfFewest(uncovered[level], free[level]);
             if (column < 0) {
                 keepWay(chosen[level]);
             } else {
@@ -421,18 +434,22 @@ public final class LinkedCovers {
             found++;
         }
 
-        private void chooseNextRow(int level) {
-            long bit = Long.lowestOneBit(untried[level]);
-            int row = Long.numberOfTrailingZeros(bit);
-            if (row >= MOST_ROWS) {
-                return;
-            }
+        private static int lowestRow(long rows) {
+            int row = Long.numberOfTrailingZeros(rows);
+            return row < MOST_ROWS ? row : -1;
+        }
+
+        private void chooseRow(int level, int row) {
+            long bit = 1L << row;
             untried[level] &= ~bit;
             // No more free on this level: that bars it for the rows of this column that follow.
             free[level] &= ~bit;
             long next = chosen[level] | bit;
+            int touched = uncovered[level] & table.columnsOf[row];
+            int covered = touched & ~table.uncovered(touched, next);
             chosen[level + 1] = next;
-            free[level + 1] = free[level] & ~table.clashesOf[row] & ~table.coveredRows(next);
+            uncovered[level + 1] = uncovered[level] & ~covered;
+            free[level + 1] = free[level] & ~table.clashesOf[row] & ~table.rowsWithAny(covered);
         }
     }
 
