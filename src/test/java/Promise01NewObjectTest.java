@@ -22,6 +22,14 @@ public final class Promise01NewObjectTest {
         counts(0, 0, 1, 1);
         counts(Integer.MIN_VALUE, 5, 1, 0);
         counts(25, 4, 24, 20);
+        counts(24, 0, 24, 24);
+        counts(24, 24, 24, 0);
+        counts(24, 25, 24, 0);
+        counts(25, 25, 24, 0);
+        counts(1, 1, 1, 0);
+        counts(1, 2, 1, 0);
+        counts(0, 1, 1, 0);
+        counts(-1, -1, 1, 1);
         counts(Integer.MAX_VALUE, 24, 24, 0);
         counts(5, -1, 5, 5);
         counts(5, Integer.MIN_VALUE, 5, 5);

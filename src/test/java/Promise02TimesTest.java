@@ -29,6 +29,37 @@ public final class Promise02TimesTest {
         checks.yes("times(0, 1)", x.times(0, 1));
         checks.yes("times(0, 1) once more", x.times(0, 1));
         checks.same("once again", x.ways(100), 4);
+        checks.no("times(0, MIN)", x.times(0, Integer.MIN_VALUE));
+        checks.no("times(0, MAX)", x.times(0, Integer.MAX_VALUE));
+        checks.noIndex("times(MIN, 1)", () -> x.times(Integer.MIN_VALUE, 1));
+        edges(checks);
         checks.end();
+    }
+
+    /** The last needed column and the first optional one; what is refused does nothing, as turns show. */
+    private static void edges(Checks checks) {
+        LinkedCovers x = new LinkedCovers(4, 2);
+        Build.row(x, 0);
+        Build.row(x, 1);
+        Build.turn(x, 0, 1, 2, 3);
+        checks.same("all are needed once", x.classes(), 1);
+        for (int n = 1; n <= 3; n++) {
+            checks.no("the first optional column, " + n, x.times(2, n));
+            checks.no("the last optional column, " + n, x.times(3, n));
+        }
+        checks.no("times(1, 4)", x.times(1, 4));
+        checks.no("times(1, 0)", x.times(1, 0));
+        checks.same("nothing was done", x.classes(), 1);
+        x.take(1);
+        for (int n = 1; n <= 3; n++) {
+            checks.no("rows are taken, " + n, x.times(1, n));
+        }
+        checks.same("nor then", x.classes(), 1);
+        x.untake();
+        checks.yes("the last needed column", x.times(1, 3));
+        checks.same("now they are not alike", x.classes(), -1);
+        LinkedCovers one = new LinkedCovers(1, 1);
+        checks.no("no column is needed", one.times(0, 1));
+        checks.noIndex("nor is there a second", () -> one.times(1, 1));
     }
 }

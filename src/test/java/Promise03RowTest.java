@@ -18,6 +18,20 @@ public final class Promise03RowTest {
         checks.noIndex("there is no row 60", () -> x.tell(60, 0));
         checks.yes("the last row is number 59", x.entry(1, 0));
         checks.same("it has the column", x.tell(59, 1), 1);
+        x.take(0);
+        checks.same("row() beyond 60, and rows are taken", x.row(), -1);
+        laidRowsCount(checks);
         checks.end();
+    }
+
+    private static void laidRowsCount(Checks checks) {
+        LinkedCovers x = new LinkedCovers(24, 0);
+        for (int i = 0; i < 35; i++) {
+            x.row();
+        }
+        Build.cubes(x, 0, 0, 0);
+        x.lay(24, 1, 1, 0, -1);
+        checks.same("behind 35 rows and 24 laid ones", x.row(), 59);
+        checks.same("and no more", x.row(), -1);
     }
 }

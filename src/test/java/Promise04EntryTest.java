@@ -7,6 +7,8 @@ public final class Promise04EntryTest {
         eightColumns();
         colours();
         colourOfNeeded();
+        exceptionsComeFirst();
+        refusedDoesNothing();
         CHECKS.end();
     }
 
@@ -46,6 +48,54 @@ public final class Promise04EntryTest {
         CHECKS.no("a ninth column", x.entry(1, 0));
         CHECKS.same("eight columns", x.tell(0, 0), 8);
         CHECKS.same("the eighth", x.tell(0, 8), 21);
+        CHECKS.same("column 1 has no row", x.open(1), 0);
+        x.row();
+        CHECKS.yes("a new row has room", x.entry(1, 0));
+    }
+
+    /** Each reason for false, and in spite of it the exceptions. */
+    private static void exceptionsComeFirst() {
+        LinkedCovers x = new LinkedCovers(9, 1);
+        refusesWith("no row", x);
+        x.row();
+        for (int c = 0; c < 8; c++) {
+            CHECKS.yes("entry " + c, x.entry(c, c % 8));
+        }
+        refusesWith("eight columns", x);
+        CHECKS.no("one of the eight", x.entry(7, 7));
+        CHECKS.noArgument("one of the eight, a wrong colour", () -> x.entry(7, 8));
+        x.take(0);
+        refusesWith("rows are taken", x);
+    }
+
+    private static void refusesWith(String why, LinkedCovers x) {
+        CHECKS.no(why, x.entry(8, 0));
+        CHECKS.no(why + ", colour 7", x.entry(8, 7));
+        CHECKS.noArgument(why + ", colour 8", () -> x.entry(8, 8));
+        CHECKS.noArgument(why + ", colour -1", () -> x.entry(8, -1));
+        CHECKS.noArgument(why + ", colour MAX", () -> x.entry(8, Integer.MAX_VALUE));
+        CHECKS.noIndex(why + ", column 9", () -> x.entry(9, 0));
+        CHECKS.noIndex(why + ", column -1", () -> x.entry(-1, 0));
+        CHECKS.noIndex(why + ", column MIN and colour -1", () -> x.entry(Integer.MIN_VALUE, -1));
+    }
+
+    /** A colour that was refused leaves the one that was there. */
+    private static void refusedDoesNothing() {
+        LinkedCovers x = new LinkedCovers(3, 1);
+        Build.painted(x, 0, 0, 2, 4);
+        Build.painted(x, 1, 0, 2, 4);
+        CHECKS.no("the row has it", x.entry(2, 5));
+        CHECKS.no("the row has it, colour 0", x.entry(2, 0));
+        CHECKS.noArgument("a wrong colour", () -> x.entry(2, 8));
+        CHECKS.same("both still have colour 4", x.ways(5), 1);
+        x.take(1);
+        CHECKS.no("rows are taken", x.entry(0, 0));
+        x.untake();
+        CHECKS.same("row 1 has no column 0", x.open(0), 1);
+        LinkedCovers none = new LinkedCovers(2, 0);
+        none.entry(0, 0);
+        none.row();
+        CHECKS.same("an entry before there was a row is lost", none.tell(0, 0), 0);
     }
 
     private static int waysOf(int first, int second) {

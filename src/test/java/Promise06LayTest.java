@@ -14,6 +14,8 @@ public final class Promise06LayTest {
         refusals();
         exceptions();
         room();
+        boxes();
+        noPlace();
         tilings();
         CHECKS.end();
     }
@@ -171,6 +173,47 @@ public final class Promise06LayTest {
         Build.cubes(many, EL);
         CHECKS.same("more than 60 of a piece", many.lay(2, 3, 4, 3, -1), -1);
         CHECKS.no("the piece still has its cubes", many.cube(2, 0, 0));
+    }
+
+    /** Sides of 0 and 1, and boxes of all columns and of one cube more, along each side. */
+    private static void boxes() {
+        for (int side = 0; side < 3; side++) {
+            for (int length = -1; length <= 26; length++) {
+                LinkedCovers x = new LinkedCovers(24, 0);
+                Build.cubes(x, 1, 1, 1);
+                int due = length >= 1 && length <= 24 ? length : -1;
+                int w = side == 0 ? length : 1;
+                int h = side == 1 ? length : 1;
+                int d = side == 2 ? length : 1;
+                CHECKS.same("a box " + w + ", " + h + ", " + d, x.lay(w, h, d, 3, -1), due);
+            }
+        }
+        int[][] full = {{2, 3, 4}, {4, 3, 2}, {3, 2, 4}, {12, 2, 1}, {1, 4, 6}};
+        for (int[] b : full) {
+            LinkedCovers x = new LinkedCovers(24, 0);
+            Build.cubes(x, 2, 0, 1);
+            CHECKS.same("24 cubes for 24 columns", x.lay(b[0], b[1], b[2], 2, -1), 24);
+            LinkedCovers y = new LinkedCovers(23, 0);
+            Build.cubes(y, 2, 0, 1);
+            CHECKS.same("24 cubes for 23 columns", y.lay(b[0], b[1], b[2], 2, -1), -1);
+        }
+        LinkedCovers one = new LinkedCovers(1, 1);
+        Build.cubes(one, 0, 2, 0);
+        CHECKS.noArgument("the only column is one of the box", () -> one.lay(1, 1, 1, 0, 0));
+        CHECKS.same("one cube for one column", one.lay(1, 1, 1, 0, -1), 1);
+    }
+
+    /** No set comes: no rows, and all that is asked of a lay that is not -1 still holds. */
+    private static void noPlace() {
+        LinkedCovers x = new LinkedCovers(6, 0);
+        Build.cubes(x, 0, 0, 0, 1, 0, 0, 2, 0, 0);
+        CHECKS.noArgument("a column of the box", () -> x.lay(2, 2, 1, 3, 3));
+        CHECKS.noIndex("no such column", () -> x.lay(2, 2, 1, 3, 6));
+        CHECKS.same("no place", x.lay(2, 2, 1, 3, 4), 0);
+        CHECKS.noIndex("no row", () -> x.tell(0, 0));
+        CHECKS.yes("the piece has no cubes", x.cube(0, 0, 0));
+        CHECKS.same("the cube that came since", x.lay(2, 2, 1, 0, 5), 4);
+        CHECKS.yes("column 5 in each: " + Build.columns(x, 0), Build.columns(x, 0).equals("0 5"));
     }
 
     private static void tilings() {

@@ -6,6 +6,7 @@ public final class Promise10WaysTest {
         ordinary();
         most();
         limit();
+        lastNode();
         barred();
         CHECKS.end();
     }
@@ -80,6 +81,29 @@ public final class Promise10WaysTest {
         CHECKS.same("-1 goes before", x.ways(0), -1);
         x.take(0);
         CHECKS.same("one column less", x.ways(10), 10);
+    }
+
+    /** Searches of 49,999, of 50,000 and of 50,001 nodes in all; the last node is a way in each. */
+    private static void lastNode() {
+        LinkedCovers under = Build.nodesByChain(0);
+        CHECKS.same("49,999 nodes", under.ways(100000), Build.CHAIN_WAYS);
+        CHECKS.same("all of them", under.nodes(), 49999);
+        CHECKS.same("as many as there are", under.ways(Build.CHAIN_WAYS), Build.CHAIN_WAYS);
+        LinkedCovers just = Build.nodesByChain(1);
+        CHECKS.same("50,000 nodes", just.ways(100000), -2);
+        CHECKS.same("are counted", just.nodes(), 50000);
+        CHECKS.same("as many as there are", just.ways(Build.CHAIN_WAYS), -2);
+        CHECKS.same("all but the last", just.ways(Build.CHAIN_WAYS - 1), Build.CHAIN_WAYS - 1);
+        CHECKS.same("by all but the last node", just.nodes(), 49999);
+        LinkedCovers over = Build.nodesByChain(2);
+        CHECKS.same("50,001 nodes", over.ways(100000), -2);
+        CHECKS.same("but no more than 50,000 are come to", over.nodes(), 50000);
+        over.take(0);
+        CHECKS.same("a row taken is no node", over.ways(100000), -2);
+        CHECKS.same("50,000 nodes", over.nodes(), 50000);
+        over.take(1);
+        CHECKS.same("two rows taken", over.ways(100000), Build.CHAIN_WAYS);
+        CHECKS.same("49,999 nodes", over.nodes(), 49999);
     }
 
     /** Columns that are covered twice or thrice: each set of rows is found once. */

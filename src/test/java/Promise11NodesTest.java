@@ -28,7 +28,22 @@ public final class Promise11NodesTest {
         checks.same("from row 3", x.nodes(), 4);
         leastColumn(checks);
         deadEnds(checks);
+        afterTooMany(checks);
         checks.end();
+    }
+
+    private static void afterTooMany(Checks checks) {
+        LinkedCovers x = Build.threeOfEach();
+        x.ways(-5);
+        checks.same("0 before, though ways(-5) was -1", x.nodes(), 0);
+        x.classes();
+        checks.same("nor is classes() a ways()", x.nodes(), 0);
+        checks.same("too many", x.ways(100000), -2);
+        checks.same("50,000", x.nodes(), 50000);
+        x.ways(0);
+        checks.same("-1 leaves that, too", x.nodes(), 50000);
+        checks.same("one way", x.ways(1), 1);
+        checks.same("counted anew, the first one and one for each row", x.nodes(), 21);
     }
 
     /** Columns 0 and 1 have two rows each; the least is gone through, and that shows in the nodes. */

@@ -7,6 +7,8 @@ public final class Promise12WayTest {
         whatEndsIt();
         whatDoesNot();
         firstHundred();
+        justAHundred();
+        noneFound();
         CHECKS.end();
     }
 
@@ -102,6 +104,40 @@ public final class Promise12WayTest {
         x.row();
         x.classes();
         CHECKS.same("take() was false, row() -1", x.way(0, 0), 0);
+    }
+
+    /** 99, 100 and 101 ways found: the first 100 are told. */
+    private static void justAHundred() {
+        LinkedCovers x = Build.threeOfEach();
+        for (int most = 99; most <= 101; most++) {
+            CHECKS.same("ways(" + most + ")", x.ways(most), most);
+            CHECKS.same("way 98 of " + most, x.way(98, 0), 0);
+            CHECKS.same("way 99 of " + most, x.way(99, 0), most < 100 ? -1 : 0);
+            CHECKS.same("way 100 of " + most, x.way(100, 0), -1);
+        }
+        x.ways(100000);
+        CHECKS.same("of -2: way 99", x.way(99, 0), 0);
+        CHECKS.same("of -2: way 100", x.way(100, 0), -1);
+    }
+
+    private static void noneFound() {
+        LinkedCovers x = small();
+        x.ways(10);
+        x.times(0, 3);
+        CHECKS.same("column 0 has two rows", x.ways(10), 0);
+        CHECKS.same("of none there is no way", x.way(0, 0), -1);
+        x.times(0, 1);
+        x.take(2);
+        x.take(1);
+        x.take(4);
+        CHECKS.same("the rows taken are the way", x.ways(10), 1);
+        CHECKS.yes("by rising numbers, not as they were taken", Build.way(x, 0).equals("1 2 4"));
+        CHECKS.same("behind the last", x.way(0, 3), -1);
+        x.untake();
+        CHECKS.same("untake() told a number", x.way(0, 0), -1);
+        LinkedCovers empty = new LinkedCovers(1, 1);
+        CHECKS.same("a way without rows", empty.ways(1), 1);
+        CHECKS.same("has no row 0", empty.way(0, 0), -1);
     }
 
     private static void firstHundred() {

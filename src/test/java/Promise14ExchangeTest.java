@@ -23,7 +23,35 @@ public final class Promise14ExchangeTest {
         Build.row(x, 2);
         checks.same("a cycle", x.classes(), 1);
         targets(checks);
+        edges(checks);
         checks.end();
+    }
+
+    private static void edges(Checks checks) {
+        LinkedCovers x = new LinkedCovers(24, 24);
+        for (int t = 0; t < 8; t++) {
+            x.turn();
+        }
+        Build.painted(x, 0, 1);
+        Build.painted(x, 23, 1);
+        Build.painted(x, 11, 1);
+        checks.yes("first and last column of the last turn", x.exchange(7, 0, 23));
+        checks.same("a row for each", x.classes(), 1);
+        checks.no("one column does nothing", x.exchange(7, 11, 11));
+        checks.no("nor column 0 with itself", x.exchange(7, 0, 0));
+        checks.same("as before", x.classes(), 1);
+        checks.noIndex("column 24", () -> x.exchange(7, 0, 24));
+        checks.noIndex("column 24 first", () -> x.exchange(7, 24, 0));
+        checks.noIndex("turn 8", () -> x.exchange(8, 0, 1));
+        checks.noIndex("turn 8, one column", () -> x.exchange(8, 1, 1));
+        checks.noIndex("turn MIN", () -> x.exchange(Integer.MIN_VALUE, 0, 1));
+        checks.noIndex("turn MAX", () -> x.exchange(Integer.MAX_VALUE, 0, 1));
+        checks.noIndex("columns MAX and MIN", () -> x.exchange(0, Integer.MAX_VALUE, Integer.MIN_VALUE));
+        checks.same("these did nothing", x.classes(), 1);
+        checks.yes("another turn", x.exchange(6, 11, 12));
+        checks.same("has no row to go to", x.classes(), -1);
+        checks.yes("back", x.exchange(6, 12, 11));
+        checks.same("as before", x.classes(), 1);
     }
 
     /** Which column goes where is seen from a row that is to be there. */

@@ -146,6 +146,21 @@ public final class Promise15ClassesTest {
         deep.turn();
         deep.exchange(0, 0, 15);
         CHECKS.same("-1 goes before -2", deep.classes(), -1);
+        lastNode();
+    }
+
+    /** Searches of 49,999 and 50,000 nodes, which find nothing. */
+    private static void lastNode() {
+        LinkedCovers under = Build.chainWithoutWays(0);
+        CHECKS.same("49,999 nodes: no classes", under.classes(), 0);
+        CHECKS.same("no ways", under.ways(1), 0);
+        CHECKS.same("49,999 nodes", under.nodes(), 49999);
+        LinkedCovers just = Build.chainWithoutWays(1);
+        CHECKS.same("50,000 nodes are come to", just.classes(), -2);
+        just.take(0);
+        CHECKS.same("whatever is taken", just.classes(), -2);
+        CHECKS.same("from the row taken there is a node less", just.ways(1), 0);
+        CHECKS.same("49,999 nodes", just.nodes(), 49999);
     }
 
     /** Ten rows for column 0, told apart by optional columns, and so many for column 1. */

@@ -23,6 +23,24 @@ public final class Promise16TellTest {
         checks.noIndex("tell(MAX, 0)", () -> x.tell(Integer.MAX_VALUE, 0));
         x.take(0);
         checks.same("while it is taken", x.tell(0, 2), 7);
+        checks.noIndex("tell(MIN, 0)", () -> x.tell(Integer.MIN_VALUE, 0));
+        full(checks);
         checks.end();
+    }
+
+    /** Eight columns, in the last of sixty rows. */
+    private static void full(Checks checks) {
+        LinkedCovers x = new LinkedCovers(24, 0);
+        for (int i = 0; i < 59; i++) {
+            x.row();
+        }
+        Build.row(x, 23, 20, 17, 14, 11, 8, 5, 2);
+        checks.same("eight", x.tell(59, 0), 8);
+        for (int i = 1; i <= 8; i++) {
+            checks.same("column " + i, x.tell(59, i), 3 * i - 1);
+        }
+        checks.same("no ninth", x.tell(59, 9), -1);
+        checks.same("the row before has none", x.tell(58, 1), -1);
+        checks.noIndex("there is no row 60", () -> x.tell(60, 0));
     }
 }
