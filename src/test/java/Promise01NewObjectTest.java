@@ -22,6 +22,8 @@ public final class Promise01NewObjectTest {
         counts(0, 0, 1, 1);
         counts(Integer.MIN_VALUE, 5, 1, 0);
         counts(25, 4, 24, 20);
+        counts(24, -1, 24, 24);
+        counts(30, -6, 24, 24);
         counts(24, 0, 24, 24);
         counts(24, 24, 24, 0);
         counts(24, 25, 24, 0);
@@ -41,6 +43,9 @@ public final class Promise01NewObjectTest {
         CHECKS.same("nothing taken", x.untake(), -1);
         CHECKS.noIndex("no turn yet", () -> x.exchange(0, 0, 1));
         CHECKS.same("no row covers column 0", x.ways(5), 0);
+        LinkedCovers less = new LinkedCovers(5, -1);
+        Build.row(less, 0, 1, 2, 3, 4);
+        CHECKS.same("no more than five columns have to be covered", less.ways(5), 1);
         LinkedCovers free = new LinkedCovers(3, 3);
         CHECKS.same("nothing is needed: the empty way", free.ways(5), 1);
         CHECKS.same("its node", free.nodes(), 1);

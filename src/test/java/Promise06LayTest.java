@@ -9,6 +9,7 @@ public final class Promise06LayTest {
 
     public static void main(String[] args) {
         turns();
+        turnedSets();
         order();
         pieceColumn();
         refusals();
@@ -58,6 +59,34 @@ public final class Promise06LayTest {
         CHECKS.same("in a long box", laid(new int[] {2, 2, 2}, 24, 1, 1, 3), 24);
         CHECKS.same("along z", laid(new int[] {0, 0, 0, 1, 0, 0}, 1, 1, 24, 3), 23);
         CHECKS.same("along z, about z alone", laid(new int[] {0, 0, 0, 1, 0, 0}, 1, 1, 24, 2), 0);
+    }
+
+    private static void sets(String what, LinkedCovers x, int first, String... due) {
+        for (int i = 0; i < due.length; i++) {
+            String got = Build.columns(x, first + i);
+            CHECKS.yes(what + ", row " + i + ": " + got, got.equals(due[i]));
+        }
+    }
+
+    /** Which sets come, not how many alone: an L lies in 3 by 2 as it is, half turned, and turned over. */
+    private static void turnedSets() {
+        LinkedCovers x = new LinkedCovers(8, 0);
+        Build.cubes(x, EL);
+        CHECKS.same("as it is", x.lay(3, 2, 1, 0, -1), 1);
+        sets("as it is", x, 0, "0 1 2 3");
+        Build.cubes(x, EL);
+        CHECKS.same("about z", x.lay(3, 2, 1, 1, -1), 2);
+        sets("about z", x, 1, "0 1 2 3", "2 3 4 5");
+        Build.cubes(x, EL);
+        CHECKS.same("quarter turns", x.lay(2, 3, 1, 1, -1), 2);
+        sets("quarter turns", x, 3, "0 1 3 5", "0 2 4 5");
+        Build.cubes(x, EL);
+        CHECKS.same("turned over as well", x.lay(3, 2, 1, 2, -1), 4);
+        sets("turned over as well", x, 5, "0 1 2 3", "0 1 2 5", "0 3 4 5", "2 3 4 5");
+        Build.cubes(x, SCREW);
+        CHECKS.same("a screw about z", x.lay(2, 2, 2, 1, -1), 4);
+        // Corners of the layer go 0, 1, 3, 2, 0; the cube above goes with the third.
+        sets("a screw about z", x, 9, "0 2 3 4", "0 1 2 5", "1 2 3 6", "0 1 3 7");
     }
 
     private static void order() {

@@ -29,7 +29,29 @@ public final class Promise07TakeTest {
         checks.same("these are a way", x.ways(10), 1);
         checks.same("of three rows", x.way(0, 2), aside);
         twice(checks);
+        anyOrder(checks);
         checks.end();
+    }
+
+    /** Rows fit together or not, whichever is taken first. */
+    private static void anyOrder(Checks checks) {
+        LinkedCovers x = new LinkedCovers(4, 1);
+        Build.painted(x, 0, 0, 3, 1);
+        Build.painted(x, 1, 0, 3, 2);
+        Build.painted(x, 2, 0, 3, 1);
+        Build.painted(x, 0, 0, 1, 0);
+        int[][] pairs = {{0, 1, 0}, {0, 2, 1}, {0, 3, 0}, {1, 2, 0}, {1, 3, 0}, {2, 3, 1}};
+        for (int[] p : pairs) {
+            for (int side = 0; side < 2; side++) {
+                x.take(p[side]);
+                checks.same("row " + p[1 - side] + " behind row " + p[side], x.take(p[1 - side]) ? 1 : 0, p[2]);
+                while (x.untake() != -1) {
+                    checks.same("still a row of its own", x.tell(p[side], 0) > 0 ? 1 : 0, 1);
+                }
+            }
+        }
+        checks.noIndex("take(MIN)", () -> x.take(Integer.MIN_VALUE));
+        checks.noIndex("take(MAX)", () -> x.take(Integer.MAX_VALUE));
     }
 
     private static void twice(Checks checks) {

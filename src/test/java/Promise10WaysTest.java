@@ -5,6 +5,7 @@ public final class Promise10WaysTest {
     public static void main(String[] args) {
         ordinary();
         most();
+        oneColumn();
         limit();
         lastNode();
         barred();
@@ -52,6 +53,21 @@ public final class Promise10WaysTest {
         CHECKS.same("ways(17)", x.ways(17), 16);
         CHECKS.same("ways(100000)", x.ways(100000), 16);
         CHECKS.same("nodes of all", x.nodes(), 21);
+    }
+
+    /** All sixty rows in one column. */
+    private static void oneColumn() {
+        LinkedCovers x = new LinkedCovers(1, 0);
+        for (int i = 0; i < 60; i++) {
+            Build.row(x, 0);
+        }
+        CHECKS.same("a way for each row", x.ways(100), 60);
+        CHECKS.same("a node for each, and the first", x.nodes(), 61);
+        CHECKS.same("the last", x.way(59, 0), 59);
+        CHECKS.same("open", x.open(0), 60);
+        x.times(0, 2);
+        CHECKS.same("a way for each two", x.ways(100000), 60 * 59 / 2);
+        CHECKS.same("their nodes", x.nodes(), 1 + 60 + 60 * 59 / 2);
     }
 
     /** Of a tree of threes 20 deep, the nodes up to a way are counted out from its number. */

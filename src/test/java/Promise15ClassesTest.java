@@ -10,6 +10,9 @@ public final class Promise15ClassesTest {
         neededAlike();
         limits();
         leavesTheRest();
+        cycles();
+        columnZero();
+        full();
         CHECKS.end();
     }
 
@@ -52,6 +55,62 @@ public final class Promise15ClassesTest {
         CHECKS.same("two of them", x.classes(), 2);
         Build.turn(x, 2, 3);
         CHECKS.same("all of them", x.classes(), 1);
+    }
+
+    /** A turn that takes three ways round, asked twice, and there twice. */
+    private static void cycles() {
+        LinkedCovers x = new LinkedCovers(5, 4);
+        for (int c = 1; c <= 4; c++) {
+            Build.painted(x, 0, 0, c, 1);
+        }
+        int turn = x.turn();
+        x.exchange(turn, 1, 2);
+        x.exchange(turn, 1, 3);
+        CHECKS.same("three of four", x.classes(), 2);
+        CHECKS.same("asked again", x.classes(), 2);
+        int again = x.turn();
+        x.exchange(again, 1, 2);
+        x.exchange(again, 1, 3);
+        CHECKS.same("the same turn once more", x.classes(), 2);
+        int back = x.turn();
+        x.exchange(back, 1, 3);
+        x.exchange(back, 1, 2);
+        CHECKS.same("and the other way round", x.classes(), 2);
+        x.exchange(back, 3, 4);
+        CHECKS.same("all four", x.classes(), 1);
+    }
+
+    private static void columnZero() {
+        LinkedCovers optional = new LinkedCovers(1, 1);
+        Build.painted(optional, 0, 1);
+        Build.painted(optional, 0, 2);
+        CHECKS.same("unlike by the colour in column 0", optional.classes(), 1);
+        Build.painted(optional, 0, 1);
+        CHECKS.same("alike in column 0", optional.classes(), -1);
+        LinkedCovers x = new LinkedCovers(3, 0);
+        Build.row(x, 0, 1);
+        Build.row(x, 2);
+        Build.row(x, 1);
+        Build.turn(x, 1, 2);
+        CHECKS.same("there is no row of columns 0 and 2", x.classes(), -1);
+        Build.row(x, 0, 2);
+        CHECKS.same("now there is", x.classes(), 1);
+    }
+
+    /** 100 ways that a turn takes into one another, and sixty rows of which one goes nowhere. */
+    private static void full() {
+        LinkedCovers x = tens(10);
+        Build.turn(x, 2, 3);
+        CHECKS.same("100 ways, ten of them by two", x.classes(), 90);
+        LinkedCovers y = new LinkedCovers(24, 22);
+        for (int i = 0; i < 60; i++) {
+            Build.painted(y, 0, 0, 2 + i % 20, i / 20);
+        }
+        CHECKS.same("sixty rows, and column 1 without any", y.classes(), 0);
+        Build.turn(y, 2, 21);
+        CHECKS.same("each goes to a row", y.classes(), 0);
+        Build.turn(y, 2, 22);
+        CHECKS.same("column 22 has none", y.classes(), -1);
     }
 
     private static void refusals() {

@@ -34,10 +34,19 @@ final class Checks {
             call.run();
         } catch (RuntimeException e) {
             got = e.getClass();
+            thrownByItself(what, String.valueOf(e.getMessage()));
         }
         if (got != due) {
             wrong++;
             System.out.println(what + " threw " + (got == null ? "nothing" : got.getName()) + ", due is " + due.getName());
+        }
+    }
+
+    /** The machine's own exceptions tell an index and a length; those of the program do not. */
+    private void thrownByItself(String what, String message) {
+        if (message.contains("out of bounds")) {
+            wrong++;
+            System.out.println(what + " was thrown by the machine: " + message);
         }
     }
 
